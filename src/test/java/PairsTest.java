@@ -158,7 +158,7 @@ public final class PairsTest {
     x.say(2, 60, 1996);
     due.is("2001 are too many", x.drawn(2, 6060, 3, 4), -4);
     x.say(2, 61, 2000);
-    due.is("not ahead of too many", x.drawn(2, 6199, 3, 4), -2);
+    due.is("not ahead of too many", x.drawn(2, 6198, 3, 4), -2);
   }
 
   /** The ten people of two(), drawn about; 571 or more is as much apart. */
