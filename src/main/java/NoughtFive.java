@@ -968,7 +968,6 @@ public final class NoughtFive {
     private int stepCount = 0;
     private final int[] names = new int[8];
     private final int[] stack;
-    private int top = 0;
     private byte[] bytes = null;
     private int length = 0;
     private int place = 0;
@@ -1056,9 +1055,11 @@ public final class NoughtFive {
       if (sign == '(') {
         return readClosed(open + 1);
       }
-      boolean goesOn = readSingle(open + 1);
+      if (!readSingle(open + 1)) {
+        return false;
+      }
       step(sign == '-' ? LESS : sign);
-      return goesOn;
+      return true;
     }
 
     private boolean readClosed(int open) {
@@ -1122,38 +1123,34 @@ public final class NoughtFive {
       names[6] = sort;
       names[7] = line;
       askedDraw = false;
-      top = 0;
       boolean counts = true;
-      for (int i = 0; i < stepCount && i < steps.length; i++) {
+      int top = 0;
+      for (int i = 0; i < stepCount && top < stack.length; i++) {
         int step = steps[i];
         if (!counts) {
           counts = step == ';';
-        } else if (step == ';') {
-          return pop();
-        } else if (step == '?') {
-          counts = pop() != 0;
-        } else {
-          work(step);
+        } else if (step >= NUMBER) {
+          stack[top] = step - NUMBER;
+          top++;
+        } else if (step < names.length) {
+          stack[top] = names[step];
+          top++;
+          askedDraw = askedDraw || step == DRAW;
+        } else if (top > 0 && step == ';') {
+          return stack[top - 1];
+        } else if (top > 0 && step == '?') {
+          top--;
+          counts = stack[top] != 0;
+        } else if (top > 0 && step == '!') {
+          stack[top - 1] = stack[top - 1] == 0 ? 1 : 0;
+        } else if (top > 0 && step == LESS) {
+          stack[top - 1] = -stack[top - 1];
+        } else if (top > 1) {
+          top--;
+          stack[top - 1] = joined(step, stack[top - 1], stack[top]);
         }
       }
       return 0;
-    }
-
-    private void work(int step) {
-      if (step >= NUMBER) {
-        push(step - NUMBER);
-      } else if (step >= 0 && step < names.length) {
-        askedDraw = askedDraw || step == DRAW;
-        push(names[step]);
-      } else if (step == '!') {
-        push(pop() == 0 ? 1 : 0);
-      } else if (step == LESS) {
-        push(-pop());
-      } else {
-        int right = pop();
-        int left = pop();
-        push(joined(step, left, right));
-      }
     }
 
     private static int joined(int sign, int left, int right) {
@@ -1170,21 +1167,6 @@ public final class NoughtFive {
         case '%': return right == 0 ? 0 : left % right;
         default: return 0;
       }
-    }
-
-    private void push(int v) {
-      if (stack != null && top >= 0 && top < stack.length) {
-        stack[top] = v;
-        top++;
-      }
-    }
-
-    private int pop() {
-      if (stack == null || top < 1 || top > stack.length) {
-        return 0;
-      }
-      top--;
-      return stack[top];
     }
   }
 
