@@ -331,13 +331,14 @@ public final class NoughtFive {
     if (row == null || text == null || !isFrom(n, 1, MOST_TIMES)) {
       return BAD;
     }
-    int due = measureOf(row, text.between, text.in);
-    if (due == VOID) {
-      return NOT;
-    }
+    // BIG is named ahead of NOT here.
     int all = people(row, text.between);
     if (all > MOST_PEOPLE) {
       return BIG;
+    }
+    int due = measureOf(row, text.between, text.in);
+    if (due == VOID) {
+      return NOT;
     }
     drawState = seed;
     int often = 0;
@@ -625,11 +626,12 @@ public final class NoughtFive {
     int[] other = lists[lo % 10];
     int first = figuresOf(one, between, ones);
     int second = figuresOf(other, between, others);
-    if (first == 0 || second == 0) {
-      return NOT;
-    }
+    // BIG is named ahead of NOT here.
     if (first + second > MOST_PEOPLE) {
       return BIG;
+    }
+    if (first == 0 || second == 0) {
+      return NOT;
     }
     int due = apartness(first, second);
     drawState = seed;

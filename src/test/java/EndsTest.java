@@ -118,9 +118,11 @@ public final class EndsTest {
     due.is("none in", x.chance(1, 2, 0, 1), -2);
     x.say(1, 10, 1999);
     due.is("2000 are few enough", x.chance(1, 0, 0, 1), 1);
+    due.is("2000, and none in", x.chance(1, 2, 0, 1), -2);
     x.say(1, 10, 2000);
     due.is("2001 are too many", x.chance(1, 0, 0, 1), -4);
-    due.is("not ahead of too many", x.chance(1, 2, 0, 1), -2);
+    due.is("too many, ahead of none in", x.chance(1, 2, 0, 1), -4);
+    due.is("bad ahead of too many", x.chance(1, 2, 0, 51), -1);
     due.is("who is not between does not count", x.chance(1, 3, 0, 1), -2);
     due.is("all in", x.chance(0, 3, 5, 7), 7);
     Due.measure(x, "1", 9999);

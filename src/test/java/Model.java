@@ -271,8 +271,8 @@ final class Model {
     int[] said = lists.get(list).said;
     int due = ratio(said, m);
     int all = all(said, 100 * m.first + m.last);
-    if (due == VOID) return NOT;
     if (all > 2000) return BIG;
+    if (due == VOID) return NOT;
     z = seed;
     int often = 0;
     for (int t = 0; t < n; t++) {
@@ -444,8 +444,8 @@ final class Model {
     if (!two(lo) || !between(b) || !in(n, 1, 50)) return BAD;
     int[] one = lists.get(lo / 10).said;
     int[] other = lists.get(lo % 10).said;
-    if (all(one, b) == 0 || all(other, b) == 0) return NOT;
     if (all(one, b) + all(other, b) > 2000) return BIG;
+    if (all(one, b) == 0 || all(other, b) == 0) return NOT;
     List<Integer> people = new ArrayList<>();
     for (int[] said : List.of(one, other)) {
       for (int a = b / 100; a <= b % 100; a++) for (int i = 0; i < said[a]; i++) people.add(a);

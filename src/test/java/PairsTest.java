@@ -158,7 +158,12 @@ public final class PairsTest {
     x.say(2, 60, 1996);
     due.is("2001 are too many", x.drawn(2, 6060, 3, 4), -4);
     x.say(2, 61, 2000);
-    due.is("not ahead of too many", x.drawn(2, 6198, 3, 4), -2);
+    due.is("2000 against none", x.drawn(2, 6161, 3, 4), -2);
+    x.say(2, 61, 2001);
+    due.is("too many, ahead of none in the first", x.drawn(2, 6161, 3, 4), -4);
+    due.is("too many, ahead of none in the other", x.drawn(20, 6161, 3, 4), -4);
+    due.is("bad ahead of too many", x.drawn(2, 6161, 3, 51), -1);
+    due.is("apart knows no too many", x.apart(2, 6161), -2);
   }
 
   /** The ten people of two(), drawn about; 571 or more is as much apart. */
