@@ -31,8 +31,8 @@ public final class BoundsOfLawsTest {
         "land 0 0 400 0 1 = 400, of 0 5 = 9998");
     run("what is said is held within 0 .. 99", "list 0 0, tape 0-1, law, tape 100, law, land 0 0 3 0 1 = 3",
         "land 0 1 4 0 1 = 4, of 0 0 = 3, of 0 99 = 4, of 0 100 = 7");
-    run("none knows by KNOW 0, all by 100", "list 0 0, tape k, law, land 0 0 400 0 9 = 400, of 0 0 = 400",
-        "of 0 1 = 0, land 0 0 400 1000 9 = 400, of 0 0 = 400, of 0 1 = 400");
+    run("none knows by KNOW 0, all by 100", "list 0 0, tape k+5, law, land 0 0 400 0 9 = 400, of 0 5 = 400",
+        "of 0 100 = 400, land 0 0 400 1000 9 = 400, of 0 6 = 400, of 0 5 = 400, of 0 100 = 800");
     run("of a sort s", "list 0 0, tape s+50, law, land 0 0 1 0 9 = 1, land 0 0 1 1 9 = 1, land 0 0 1 2 9 = 1",
         "land 0 0 1 3 9 = 1, land 0 0 2 1003 9 = 2, of 0 50 = 1, of 0 51 = 1, of 0 52 = 1, of 0 53 = 3",
         "of 0 100 = 6");
@@ -88,6 +88,9 @@ public final class BoundsOfLawsTest {
     run("each draw alike likely (0 .. 99)", "tape z=99?7;a=7?7;8, law, truly 0 7 0 0 = 502, truly 0 7 0 1 = 7",
         "truly 0 8 0 0 = 10, truly 0 9 0 0 = NOT, tape z=0?7;8, law, truly 1 7 0 0 = 10, truly 1 8 0 1 = 0",
         "tape z=100?7;8, law, truly 2 7 0 0 = NOT");
+    // One who knows, of KNOW 1, by one draw of 100: a millionth.
+    run("the LIKELIEST of the least part", "tape k&z=0&a=50?7;8, law, truly 0 7 10 1 = 50, truly 0 7 10 0 = 0",
+        "truly 0 7 0 1 = NOT, tape k&z=99&a=50?50;8, law, truly 1 50 10 1 = 50, truly 1 50 10 0 = 1000");
     run("of like ones the least", "tape a/50*50, law, truly 0 50 0 1 = 50, truly 0 0 0 1 = 0, tape 99-a, law",
         "truly 1 0 0 1 = 99, truly 1 99 0 1 = 0, tape (a=90)*(z>0)+(a=91)*9+(a<90)*7, law, truly 2 9 0 1 = 91");
     run("thousandths (cut)", "tape a<3?1;2, law, truly 0 1 0 0 = 333, truly 0 2 0 0 = 0, tape a<7?1;2, law",

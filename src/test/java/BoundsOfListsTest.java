@@ -157,6 +157,8 @@ public final class BoundsOfListsTest {
         "law = -102, tape ;1, law = -100, tape 1;;2, law = -102, count 2 = 2");
     run("LINE: E, or E ? E", "tape a?1, law = 0, tape a?, law = -102, tape ?1, law = -100, tape a?1?2, law = -103",
         "tape a?1;a?2, law = 1, tape (a?1), law = -102, tape a?;1, law = -102");
+    run("E ? E: each a whole E", "tape 0|5?0|6;7, law = 0, says 0 0 0 = 1, tape 0?1;2&0|3, law = 1, says 1 0 0 = 1",
+        "tape 1&0?6;7, law = 2, says 2 0 0 = 7, tape 1?5+a*2, law = 3, says 3 7 0 = 19");
     run("the first LINE without a first E counts", "tape 7;8;9, law, says 0 0 0 = 7, tape a?1;8;9, law",
         "says 1 0 0 = 8");
     run("whose first E is not 0", "tape a-5?7;8, law, says 0 4 0 = 7, says 0 5 0 = 8, says 0 6 0 = 7",
@@ -182,6 +184,8 @@ public final class BoundsOfListsTest {
         "tape ((1)+-----7), law = 1, says 1 0 0 = 0, tape ((1)+------7), law = -110, tape ((1)+-----7, law = -111");
     run("- behind an O opens nothing", "tape 9-1-1-1-1-1-1-1-1, law = 0, says 0 0 0 = 1, tape 9-------1, law = 1",
         "says 1 0 0 = 8, tape 9--------1, law = -108");
+    run("6 are open behind ? and ; too", "tape 1?!!!!!!7, law = 0, tape 1?!!!!!!!7, law = -108, tape 0?1;------7",
+        "law = 1, tape 0?1;-------7, law = -110, tape 1;((((((7)))))), law = 2, tape 1;(((((((7, law = -108");
     run("other LINES, other E", "tape ((((((1))))))?((((((2))))));((((((3)))))), law = 0, says 0 0 0 = 2",
         "tape !!!!!!0?2;!!!!!!3, law = 1, says 1 0 0 = 1");
   }

@@ -122,30 +122,40 @@ public final class BoundsOfPairsTest {
         "drawn 1 4242 5 2 = NOT, drawn 10 4141 5 2 = NOT, drawn 1 4141 5 0 = BAD, drawn 0 4141 5 2 = BAD");
   }
 
-  /** Two that say 40 against two that say 41, by SEEDS from end to end. */
+  /** Two that say an AGE against two that say another, by SEEDS from end to end; those who say others stand by. */
   private static void drawnBySeed() {
     int[] seeds = {Integer.MIN_VALUE, Integer.MIN_VALUE + 1, -1, 0, 1, 99, Integer.MAX_VALUE};
+    String people = "list 0 0, list 0 0, say 0 # 2, say 1 + 2, say 0 0 7, say 1 99 7, say 0 98 8, say 1 1 8, say 0 81 9";
     for (int seed : seeds) {
-      int z = seed;
-      int often = 0;
-      StringBuilder drawn = new StringBuilder();
-      for (int n = 1; n <= 50; n++) {
-        int places = 2;
-        int forties = 0;
-        for (int i = 0; i < 4; i++) {
-          z = z * 1103515245 + 12345;
-          boolean first = (z >>> 8) % (4 - i) < places;
-          places -= first ? 1 : 0;
-          forties += first && i < 2 ? 1 : 0;
-        }
-        often += forties != 1 ? 1 : 0;
-        drawn.append("drawn 1 4041 " + seed + " " + n + " = " + often + ", ");
+      for (int[] ages : new int[][] {{40, 41}, {53, 62}, {3, 9}, {90, 97}}) {
+        String lists = people.replace("#", "" + ages[0]).replace("+", "" + ages[1]);
+        String call = "drawn 1 " + (100 * ages[0] + ages[1]) + " " + seed;
+        run("wholly APART BY CHANCE, SEED " + seed, lists, whollyApart(call, seed));
       }
-      run("wholly APART BY CHANCE, SEED " + seed, "list 0 0, list 0 0, say 0 40 2, say 1 41 2", drawn.toString());
       // Whoever is alone, three against one are as much APART.
       run("as much APART, or more, SEED " + seed, "list 0 0, list 0 0, say 0 40 2, say 0 41 1, say 1 41 1",
           Script.with("drawn 1 4041 " + seed + " # = #", "1", "2", "49", "50"));
     }
+  }
+
+  /** How often two of the first AGE come together, two of the other too, for each n. */
+  private static String whollyApart(String call, int seed) {
+    int z = seed;
+    int often = 0;
+    StringBuilder drawn = new StringBuilder();
+    for (int n = 1; n <= 50; n++) {
+      int places = 2;
+      int firstAges = 0;
+      for (int i = 0; i < 4; i++) {
+        z = z * 1103515245 + 12345;
+        boolean first = (z >>> 8) % (4 - i) < places;
+        places -= first ? 1 : 0;
+        firstAges += first && i < 2 ? 1 : 0;
+      }
+      often += firstAges != 1 ? 1 : 0;
+      drawn.append(call + " " + n + " = " + often + ", ");
+    }
+    return drawn.toString();
   }
 
   private static void years() {
@@ -172,6 +182,8 @@ public final class BoundsOfPairsTest {
     run("the other way, less the same way (alike: neither)", "tape a=0, measure 1, beside 0 = 0, list 0 100",
         "say 0 0 1, beside 0 = 0, list 0 101, beside 0 = 0, say 1 1 1, beside 0 = 1, mark 1 1 100, beside 0 = 0",
         "mark 1 1 99, beside 0 = -1, say 1 1 0, say 1 0 1, beside 0 = 0");
+    run("the other way by 1 and 1", "tape a=0, measure 1, list 0 0, list 0 1, say 0 0 5000, say 0 1 5000, say 1 0 5000",
+        "say 1 1 4999, measured 0 0 = 10000, measured 1 0 = 10001, beside 0 = -1, mark 0 1 2, beside 0 = 1");
     run("LISTS where it is VOID left out", "tape a=0, measure 1, list 0 0, list 0 500, list 0 1000, say 0 0 1",
         "say 2 1 1, beside 0 = 1, say 1 0 1, say 1 1 1, beside 0 = 3, say 2 1 0, beside 0 = 1, say 0 0 0",
         "beside 0 = 0");
@@ -195,6 +207,10 @@ public final class BoundsOfPairsTest {
     run("SAYINGS FROM A ROW, LANDS are none", "list 5 6, row 0 2 3, sayings 0 0 0 3 = 3, count 5 = 0, undo = STATE",
         "tape 5, law, land 0 0 3 0 1 = 3, undo = STATE, say 0 0 7 = 3, undo = 0, sayings 0 0 0 3 = 3",
         "land 0 0 3 0 1 = 3, of 0 0 = 6, redo = 0, of 0 0 = 7, undo = 0, of 0 0 = 3");
+    run("of each LIST its own", Script.each("list 5 6", 0, 7), "say 0 3 1, say 7 3 2, mark 3 0 7, mark 7 1 8, mark 0 1 9",
+        "undo = 4, of 0 102 = 6, of 7 102 = 8, undo = 3, of 7 102 = 6, undo = 2, of 3 101 = 5, of 0 101 = 5, undo = 1",
+        "of 7 3 = 0, of 0 3 = 1, undo = 0, of 0 3 = 0, redo = 4, redo = 3, of 0 3 = 1, of 7 3 = 2, redo = 2, redo = 1",
+        "of 3 101 = 7, of 7 102 = 8, of 0 102 = 6, of 7 101 = 5");
   }
 
   private static void doneAgain() {

@@ -62,6 +62,9 @@ public final class BoundsOfShelvesTest {
         "trace 8 = BAD");
     run("of the latest act()", eight, "act 7 3 1, act 0 0 1, count 7 = 1, trace 0 = 1, trace 1 = BAD, trace 7 = BAD",
         "act 6 2 1, count 7 = 4, trace 0 = 70, trace 1 = 11, trace 2 = 60, trace 3 = 1, trace 4 = BAD");
+    run("bodies as they began", eight, "act 4 3 1, count 7 = 6, trace 0 = 50, trace 1 = 2, trace 2 = 10, trace 3 = 20",
+        "trace 4 = 1, trace 5 = 11, trace 6 = BAD, act 1 0 1, count 7 = 2, trace 0 = 20, trace 1 = 1, trace 2 = BAD",
+        "act 3 3 1, count 7 = 6, trace 0 = 2, trace 1 = 30, trace 2 = 10, trace 3 = 1, trace 4 = 40, trace 5 = 11");
     run("no other call has a TRACE", eight, "act 3 2 1, body 3 = 8, keep 0 3, taken 0 3 = 3, count 7 = 2",
         "trace 0 = 40, trace 1 = 11, trace 2 = BAD, body 8 = BAD, keep 6 0 = BAD");
     run("the first 24 are kept: none has so many", eight, "act 7 3 1, trace 22 = BAD, trace 23 = BAD",

@@ -2,7 +2,7 @@ import java.util.Random;
 
 /** Random runs of calls, each answered by the program and by the model: no call may throw, and all must be alike. */
 public final class ModelTest {
-  private static final int RUNS = 150, CALLS = 512;
+  private static final int RUNS = 3000, CALLS = 512;
   private static final String SIGNS = "aufwkzsl0123456789()()!-+*/%<=>&|?;";
   private static final int[] EDGES = {
     Integer.MIN_VALUE, Integer.MAX_VALUE, -1, -2, 0, 1, 2, 5, 9, 10, 11, 49, 50, 51, 59, 60, 61, 99, 100, 101, 102,
@@ -13,7 +13,7 @@ public final class ModelTest {
   private final NoughtFive x = new NoughtFive();
   private final Model y = new Model();
   private final Due due;
-  private final StringBuilder told = new StringBuilder();
+  private int calls = 0;
 
   private ModelTest(Due due, long seed) {
     this.due = due;
@@ -106,7 +106,7 @@ public final class ModelTest {
 
   private void run() {
     int fat = random.nextInt(3);
-    for (int i = 0; i < CALLS; i++) {
+    for (int i = 0; calls < CALLS; i++) {
       // The dear ones come seldom: the model is slow.
       int call = random.nextInt(44);
       if ((call >= 19 && call <= 21) && random.nextInt(12) != 0) call = 4;
@@ -148,8 +148,12 @@ public final class ModelTest {
     return random.nextInt(10) == 0 ? below(1011) : 10 * random.nextInt(101) + random.nextInt(4);
   }
 
+  /** What calls behind the 512th answer is free. */
   private void same(String call, long got, long want) {
-    due.is(call, got, want);
+    calls++;
+    if (calls <= CALLS) {
+      due.is(call, got, want);
+    }
   }
 
   private void feed(String text) {
@@ -212,7 +216,7 @@ public final class ModelTest {
         same("land", x.land(p, q, r, s, t), y.land(p, q, r, s, t)); break;
       case 18: p = law(); q = below(100); r = below(2004); same("says", x.says(p, q, r), y.says(p, q, r)); break;
       case 19: p = law(); q = below(100); r = ks(); s = below(2);
-        if (random.nextInt(2) == 0) q = Math.max(0, x.says(p, q, random.nextInt(2) * 1000 + 300));
+        if (random.nextInt(2) == 0) q = Math.max(0, y.says(p, q, random.nextInt(2) * 1000 + 300));
         same("truly", x.truly(p, q, r, s), y.truly(p, q, r, s)); break;
       case 20: p = list(); q = law(); r = ks(); same("fits", x.fits(p, q, r), y.fits(p, q, r)); break;
       case 21: p = list(); q = ks(); r = below(2); same("best", x.best(p, q, r), y.best(p, q, r)); break;
@@ -265,11 +269,10 @@ public final class ModelTest {
     if (random.nextInt(40) == 0) all();
   }
 
-  /** All that can be read of the state. */
+  /** All counts, and all of one list. */
   private void all() {
-    for (int i = 0; i < 8; i++) {
-      same("count " + i, x.count(i), y.count(i));
-      for (int j = 0; j < 103; j++) same("of", x.of(i, j), y.of(i, j));
-    }
+    int list = random.nextInt(8);
+    for (int i = 0; i < 8; i++) same("count " + i, x.count(i), y.count(i));
+    for (int i = 0; i < 103; i++) same("of", x.of(list, i), y.of(list, i));
   }
 }

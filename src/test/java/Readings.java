@@ -6,27 +6,17 @@ import java.util.List;
  * own: the later ones change what they read.
  */
 final class Readings {
-  private static final int MOST = 200;
-
   private Readings() {}
 
   static List<List<Script.Call>> all() {
-    List<String> still = new ArrayList<>();
-    lists(still);
-    texts(still);
-    shelves(still);
-    for (int i = 0; i < 8; i++) {
-      still.add("count " + i);
-      still.add("goes " + i % 4);
-    }
-    still.add("mean");
-    still.add("turned");
-    for (int i = 0; i < 24; i++) {
-      still.add("trace " + i);
-    }
     List<List<String>> told = new ArrayList<>();
-    for (int from = 0; from < still.size(); from += MOST) {
-      told.add(still.subList(from, Math.min(from + MOST, still.size())));
+    told.add(counts());
+    for (int i = 0; i < 8; i++) {
+      told.add(list(i));
+    }
+    for (int i = 0; i < 6; i++) {
+      told.add(text(i));
+      told.add(shelf(i));
     }
     told.add(lines());
     told.add(tape(false));
@@ -45,7 +35,7 @@ final class Readings {
       for (String line : some) {
         calls.add(new Script.Call(line));
       }
-      if (calls.size() > MOST) {
+      if (calls.size() > Script.MOST_READ) {
         throw new IllegalStateException(calls.size() + " calls are too many to read with");
       }
       readings.add(calls);
@@ -53,36 +43,53 @@ final class Readings {
     return readings;
   }
 
-  private static void lists(List<String> calls) {
-    for (int list = 0; list < 8; list++) {
-      for (int what = 0; what <= 102; what++) {
-        calls.add("of " + list + " " + what);
-      }
+  private static List<String> counts() {
+    List<String> calls = new ArrayList<>();
+    for (int i = 0; i < 8; i++) {
+      calls.add("count " + i);
     }
+    for (int i = 0; i < 24; i++) {
+      calls.add("trace " + i);
+    }
+    for (int i = 0; i < 4; i++) {
+      calls.add("goes " + i);
+    }
+    calls.add("mean");
+    calls.add("turned");
+    return calls;
   }
 
-  private static void texts(List<String> calls) {
-    for (int text = 0; text < 6; text++) {
-      for (int age = 0; age < 100; age++) {
-        calls.add("isIn " + text + " " + age);
-      }
-      for (int age : new int[] {0, 9, 47, 99}) {
-        for (int kz : new int[] {0, 993, 1000, 1453}) {
-          calls.add("says " + text + " " + age + " " + kz);
-        }
-      }
+  private static List<String> list(int list) {
+    List<String> calls = new ArrayList<>();
+    for (int what = 0; what <= 102; what++) {
+      calls.add("of " + list + " " + what);
     }
+    return calls;
   }
 
-  private static void shelves(List<String> calls) {
-    for (int shelf = 0; shelf < 6; shelf++) {
-      for (int i = 0; i < 60; i++) {
-        calls.add("element " + shelf + " " + i);
-      }
-      for (int k = 0; k < 8; k++) {
-        calls.add("taken " + shelf + " " + k);
+  /** A MEASURE and a LAW. */
+  private static List<String> text(int text) {
+    List<String> calls = new ArrayList<>();
+    for (int age = 0; age < 100; age++) {
+      calls.add("isIn " + text + " " + age);
+    }
+    for (int age : new int[] {0, 9, 47, 99}) {
+      for (int kz : new int[] {0, 993, 1000, 1453}) {
+        calls.add("says " + text + " " + age + " " + kz);
       }
     }
+    return calls;
+  }
+
+  private static List<String> shelf(int shelf) {
+    List<String> calls = new ArrayList<>();
+    for (int k = 0; k < 8; k++) {
+      calls.add("taken " + shelf + " " + k);
+    }
+    for (int i = 0; i < 60; i++) {
+      calls.add("element " + shelf + " " + i);
+    }
+    return calls;
   }
 
   /** LINE, and what the PAIRS say at each other one. */
@@ -115,7 +122,7 @@ final class Readings {
   /** The sort of each ROW, by what it keeps of a long; then what comes of it as SAYINGS. */
   private static List<String> sorts() {
     List<String> calls = new ArrayList<>();
-    for (int shelf = 0; shelf < 6; shelf++) {
+    for (int shelf = 5; shelf >= 0; shelf--) {
       calls.add("put " + shelf + " 0 1311768467463790320");
       calls.add("element " + shelf + " 0");
       calls.add("sayings 0 " + shelf + " 1 60");

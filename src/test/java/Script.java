@@ -11,7 +11,8 @@ import java.util.Map;
  * be read of the state has to be what it was ahead of it. No object gets more than its 512 calls.
  */
 final class Script {
-  private static final int MOST_CALLS = 512, MOST_READ = 200;
+  static final int MOST_READ = 200;
+  private static final int MOST_CALLS = 512;
   private static final Map<String, Long> REFUSALS = Map.of(
       "BAD", -1L, "NOT", -2L, "FULL", -3L, "BIG", -4L, "STATE", -5L, "VOID", -2000000000L,
       "NOTHING", -11L, "KIND", -12L, "PLACE", -13L, "SIZE", -14L);
