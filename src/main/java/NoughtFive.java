@@ -151,7 +151,7 @@ public final class NoughtFive {
     }
   }
 
-  // ---- texts, measures
+  // ---- texts, measures (between: 100 times the first AGE and the last one, not less, here and further on)
 
   public int feed(int n, int v) {
     if (!isFrom(n, 1, 4)) {
